@@ -307,6 +307,10 @@ public final class PromisesTest {
         FaceLetters y = net(100, 10, 10, 30, 10, 5, 10);
         int[] lost = {2, 0, 2, 0, NONE};
         for (int i = 0; i < lost.length; i++) due("lost step(2, 1, " + i + ")", y.step(2, 1, i), lost[i]);
+        FaceLetters z = net(18, 4, 7, 5, 6, 1, 11, 10, 14, 9, 6, 4, 22, 1, 18, 1, 21, 1, 9, 0, 14);
+        due("the longest way that a search found", z.way(5, 3, 1), 48);
+        due("its end", z.step(5, 3, 48) >= 0 ? 1 : 0, 1);
+        due("behind its end", z.step(5, 3, 49), NONE);
         due("step(7, 0, -1)", x.step(7, 0, -1), UNKNOWN);
         due("step(0, -1, 0)", x.step(0, -1, 0), UNKNOWN);
         x.wake(1, false);
