@@ -1,8 +1,11 @@
 import java.util.Random;
 
-/** Long random runs of calls, each answer held against PlainModel's. */
+/** Long random runs of calls, ordinary ones and such at the edges, each answer held against PlainModel's. */
 public final class ModelTest {
     private static final int RUNS = 400, CALLS = 512;
+    private static final int[] EDGES = {Integer.MIN_VALUE, Integer.MIN_VALUE + 1, -1000000001, -64, -2, -1, 0, 1, 2, 5, 6, 9, 10, 11, 15, 16, 17,
+        19, 20, 21, 31, 32, 33, 62, 63, 64, 65, 199, 200, 201, 400, 401, 7937, 7938, 7999, 8000, 8001, 65535, 65536, 1 << 30,
+        Integer.MAX_VALUE - 1, Integer.MAX_VALUE};
     private static int wrong = 0;
     private static String log;
     private static FaceLetters x;
@@ -10,16 +13,67 @@ public final class ModelTest {
 
     public static void main(String[] args) {
         int runs = args.length > 0 ? Integer.parseInt(args[0]) : RUNS;
-        for (int run = 0; run < runs && wrong < 5; run++) oneRun(run);
+        for (int run = 0; run < runs && wrong < 5; run++) {
+            oneRun(run);
+            edgeRun(run);
+        }
         System.out.println(wrong == 0 ? "all answers are as the plain model's" : wrong + " runs differ");
         if (wrong != 0) System.exit(1);
     }
 
-    private static void oneRun(int run) {
-        Random r = new Random(run);
+    private static void start() {
         x = new FaceLetters();
         m = new PlainModel();
         log = "";
+    }
+
+    private static void edgeRun(int run) {
+        Random r = new Random(run);
+        start();
+        int wild = 1 + r.nextInt(60);
+        for (int call = 0; call < CALLS; call++) {
+            if (edgeCall(r.nextInt(25), edge(r, wild), edge(r, wild), edge(r, wild))) continue;
+            wrong++;
+            System.out.println("edge run " + run + ": " + log);
+            return;
+        }
+    }
+
+    /** At times an edge, mostly a small number that may be a node's. */
+    private static int edge(Random r, int wild) {
+        return r.nextInt(100) < wild ? EDGES[r.nextInt(EDGES.length)] : r.nextInt(10);
+    }
+
+    private static boolean edgeCall(int which, int a, int b, int c) {
+        String args = "(" + a + ", " + b + ", " + c + ")";
+        switch (which) {
+            case 0: return is("told" + args, x.told(a), m.told(a));
+            case 1: return is("at" + args, x.at(a, b), m.at(a, b));
+            case 2: return is("far" + args, x.far(a, b), m.far(a, b));
+            case 3: return is("turning" + args, x.turning(a, b), m.turning(a, b));
+            case 4: return is("face" + args, x.face(a, b), m.face(a, b));
+            case 5: return is("way" + args, x.way(a, b, c), m.way(a, b, c));
+            case 6: return is("step" + args, x.step(a, b, c), m.step(a, b, c));
+            case 7: return is("hops" + args, x.hops(a, b), m.hops(a, b));
+            case 8: return is("move" + args, x.move(a, b, c), m.move(a, b, c));
+            case 9: return is("wake, " + (b > 3) + args, x.wake(a, b > 3), m.wake(a, b > 3));
+            case 10: return is("take" + args, x.take(a), m.take(a));
+            case 11: return is("reach" + args, x.reach(a), m.reach(a));
+            case 12: return is("rule" + args, x.rule(a), m.rule(a));
+            case 13: return is("drift" + args, x.drift(a), m.drift(a));
+            case 14: return is("undo" + args, x.undo(a), m.undo(a));
+            case 15: return is("write" + args, x.write(a, b, c), m.write(a, b, c));
+            case 16: return c > 2 || is("tear" + args, x.tear(), m.tear());
+            case 17: return is("seed" + args, x.seed(a), m.seed(a));
+            case 18: return is("keep" + args, x.keep(a), m.keep(a));
+            case 19: return is("goBack" + args, x.goBack(a), m.goBack(a));
+            default: return is("node" + args, x.node(a, b), m.node(a, b));
+        }
+    }
+
+    private static void oneRun(int run) {
+        Random r = new Random(run);
+        start();
         int side = new int[] {4, 8, 16, 64}[r.nextInt(4)];
         int reachTop = Math.max(2, new int[] {20, 60, 300, 2000, 8000}[r.nextInt(5)] * side / 64 + 2);
         int asks = 20 + r.nextInt(75);

@@ -468,18 +468,20 @@ public final class NetBoundsTest {
 
     private static void turnNotByNearness() {
         Due.says("the one to which one has to turn least .. of like directions the nearest");
-        FaceLetters x = Due.net(100, 30, 30, 30, 31, 31, 30, 31, 29);
+        dueFirst("just as near", 31, 30, 30, 31, 31, 29);
+        dueFirst("the first of them farther", 31, 29, 30, 31, 31, 28);
+        dueFirst("the first of them nearer", 32, 30, 30, 33, 31, 29);
+        dueFirst("the first of them farther", 33, 30, 30, 32, 31, 29);
+    }
+
+    /** Of two places, seen from 30, 30 and a third one: the first, whichever has the lower number. */
+    private static void dueFirst(String what, int... places) {
+        FaceLetters x = Due.net(100, 30, 30, places[0], places[1], places[2], places[3], places[4], places[5]);
         x.wake(3, false);
-        Due.is("just as near", x.turning(0, 3), 2);
-        x = Due.net(100, 30, 30, 30, 31, 31, 29, 31, 28);
+        Due.is(what, x.turning(0, 3), 1);
+        x = Due.net(100, 30, 30, places[2], places[3], places[0], places[1], places[4], places[5]);
         x.wake(3, false);
-        Due.is("the first of them farther", x.turning(0, 3), 2);
-        x = Due.net(100, 30, 30, 32, 30, 30, 33, 31, 29);
-        x.wake(3, false);
-        Due.is("the first of them nearer", x.turning(0, 3), 1);
-        x = Due.net(100, 30, 30, 33, 30, 30, 32, 31, 29);
-        x.wake(3, false);
-        Due.is("the first of them farther, with a lower number", x.turning(0, 3), 1);
+        Due.is(what + ", with the higher number", x.turning(0, 3), 2);
     }
 
     private static void turnElseV() {
