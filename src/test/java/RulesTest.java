@@ -7,9 +7,12 @@ import java.nio.file.Files;
 import java.nio.file.Path;
 import java.util.ArrayList;
 import java.util.Arrays;
+import java.util.LinkedHashMap;
 import java.util.List;
+import java.util.Map;
 import java.util.Set;
 import java.util.TreeSet;
+import java.util.regex.Matcher;
 import java.util.regex.Pattern;
 
 /** The public face, and those rules of LANGUAGE.md that a look at the class and its text can tell. */
@@ -20,6 +23,8 @@ public final class RulesTest {
     private static final String[] FORBIDDEN = {"\\bthrow\\b", "\\btry\\b", "\\bcatch\\b", "\\bsynchronized\\b", "\\bassert\\b",
         "->", "::", "\\bpackage\\b", "\\w+Exact\\b", "\\bSystem\\.(?!arraycopy)", "\\bRandom\\b", "\\bThread\\b", "\\bwhile\\s*\\(true",
         "[^\\x00-\\x7f]"};
+    private static final Pattern HEAD = Pattern.compile("( +)(?:public|private) (static |final )*(int |boolean |void )?(\\w+)\\(.*\\) \\{");
+    private static final int MOST_LINES = 60, MOST_DEEP = 8;
     private static int wrong = 0;
 
     public static void main(String[] args) throws Exception {
@@ -27,6 +32,7 @@ public final class RulesTest {
         constants();
         members();
         text();
+        bodies();
         System.out.println(wrong == 0 ? "the rules that are looked at hold" : wrong + " rules are broken");
         if (wrong != 0) System.exit(1);
     }
@@ -78,11 +84,43 @@ public final class RulesTest {
         }
     }
 
+    private static String bareText() throws Exception {
+        return Files.readString(Path.of("src/main/java/FaceLetters.java")).replaceAll("//.*", "").replaceAll("(?s)/\\*.*?\\*/", "");
+    }
+
     private static void text() throws Exception {
-        String text = Files.readString(Path.of("src/main/java/FaceLetters.java")).replaceAll("//.*", "").replaceAll("(?s)/\\*.*?\\*/", "");
+        String text = bareText();
         for (String word : FORBIDDEN) hold(!Pattern.compile(word).matcher(text).find(), "found " + word);
         for (String line : text.split("\n")) {
             if (line.startsWith("import ")) hold(line.matches("import java\\.util\\.(Arrays|ArrayList|List);"), line);
         }
+    }
+
+    /** Methods stay short, make nothing outside of constructors, and stand few deep in one another. */
+    private static void bodies() throws Exception {
+        Map<String, String> bodies = new LinkedHashMap<>();
+        String[] lines = bareText().split("\n");
+        for (int i = 0; i < lines.length; i++) {
+            Matcher head = HEAD.matcher(lines[i]);
+            if (!head.matches()) continue;
+            int end = i + 1;
+            while (!lines[end].equals(head.group(1) + "}")) end++;
+            String name = head.group(4);
+            String body = String.join("\n", Arrays.copyOfRange(lines, i + 1, end));
+            hold(end - i + 1 <= MOST_LINES, name + " is short");
+            hold(head.group(3) == null || !body.matches("(?s).*\\bnew\\b.*"), name + " makes no object");
+            hold(bodies.put(name, body) == null, name + " is the name of one method alone");
+        }
+        hold(bodies.size() > FACE.split(" ").length, "the methods are found in the text");
+        for (String name : bodies.keySet()) hold(deep(name, bodies, 0) <= MOST_DEEP, name + " goes eight deep at most, and never into itself");
+    }
+
+    private static int deep(String name, Map<String, String> bodies, int above) {
+        if (above > MOST_DEEP) return above;
+        int most = 0;
+        for (String other : bodies.keySet()) {
+            if (bodies.get(name).matches("(?s).*\\b" + other + "\\(.*")) most = Math.max(most, deep(other, bodies, above + 1));
+        }
+        return most + 1;
     }
 }
